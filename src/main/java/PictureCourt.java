@@ -18,8 +18,8 @@ public final class PictureCourt {
     private static final int GOES_BACK = 1, TOO_LATE = 2, NOT_SHOWN = 3;
     private static final int LAST_COUNT = 7, LAST_DETAIL = 5;
 
-    private final Rows rows = new Rows();
-    private final Proofs proofs = new Proofs(rows);
+    private final Proofs proofs = new Proofs();
+    private final Rows rows = proofs.rows;
     private final Known known = new Known();
     private final Odds odds = new Odds();
     private final Owners owners = new Owners();
@@ -624,9 +624,9 @@ public final class PictureCourt {
         }
     }
 
-    /** Proofs, and the paints and the sap on which their years depend whenever they are asked. */
+    /** Proofs, and the rows, paints and sap on which their years depend whenever they are asked. */
     private static final class Proofs {
-        private final Rows rows;
+        final Rows rows = new Rows();
         private final int[] paintYears = new int[PAINTS];
         private final int[] kinds = new int[MOST_PROOFS];
         private final int[] weights = new int[MOST_PROOFS];
@@ -643,8 +643,7 @@ public final class PictureCourt {
         int size = 0;
         int struck = 0;
 
-        Proofs(Rows rows) {
-            this.rows = rows;
+        Proofs() {
             for (int p = 0; p < PAINTS; p++) {
                 paintYears[p] = FIRST_YEAR;
             }

@@ -57,6 +57,10 @@ public final class ContractTest {
         gapsDue(x, 1745, 1760, 10, 10);
         gapsDue(x, 1800, 2100, 301, 301);
         gapsDue(x, 1000, 1500, 501, 501);
+        for (int n = 7; n <= 20; n++) {
+            x.owner(1500 + n, 1500 + n);
+        }
+        gapsDue(x, 1500, 1599, 86, 79);
         C.refused("gaps(1501, 1500)", x, () -> x.gaps(1501, 1500), BAD);
         C.refused("gaps(999, 1500)", x, () -> x.gaps(999, 1500), BAD);
         C.refused("gaps(1500, 2101)", x, () -> x.gaps(1500, 2101), BAD);
@@ -76,6 +80,8 @@ public final class ContractTest {
         for (int n = 3; n <= 30; n++) {
             C.due("opinion " + n, x.opinion(1, 1, 1, true), n);
         }
+        C.due("mean(1, true), full", x.mean(1, true), 1);
+        C.due("spread(), full", x.spread(), NONE);
         C.refused("opinion when full", x, () -> x.opinion(0, 0, 1, true), FULL);
         C.refused("bad opinion when full", x, () -> x.opinion(0, 0, 101, true), BAD);
     }

@@ -1,3 +1,5 @@
+import java.math.BigInteger;
+
 /** Promises 22 to 29: hands, tests, chances, and what a test can settle. */
 public final class HandsTest {
     private static final int BAD = PictureCourt.BAD, FULL = PictureCourt.FULL;
@@ -170,10 +172,10 @@ public final class HandsTest {
         long all = 2 * first + second + fourth;
         C.due("chance(1)", x.chance(1), 1);
         C.holds("the fraction is that of the scores",
-                java.math.BigInteger.valueOf(x.upper()).multiply(java.math.BigInteger.valueOf(all))
-                        .equals(java.math.BigInteger.valueOf(x.lower()).multiply(java.math.BigInteger.valueOf(second))));
-        C.due("the common divisor", java.math.BigInteger.valueOf(x.upper())
-                .gcd(java.math.BigInteger.valueOf(x.lower())).longValue(), 1);
+                BigInteger.valueOf(x.upper()).multiply(BigInteger.valueOf(all))
+                        .equals(BigInteger.valueOf(x.lower()).multiply(BigInteger.valueOf(second))));
+        C.due("the common divisor", BigInteger.valueOf(x.upper())
+                .gcd(BigInteger.valueOf(x.lower())).longValue(), 1);
         C.due("likely()", x.likely(), 0);
     }
 
@@ -210,6 +212,10 @@ public final class HandsTest {
         gainDue(x, 2, 1, 16);
         often(x, 3, 10, 16, 0, 0);
         gainDue(x, 3, 0, 1);
+        often(x, 3, 0, 0, 8, 8);
+        gainDue(x, 3, 0, 1);
+        often(x, 3, 16, 16, 8, 8);
+        gainDue(x, 3, 0, 1);
         C.due("asked(), not told by gain", x.asked(), 0);
         C.refused("gain(4)", x, () -> x.gain(4), BAD);
         C.refused("gain(-1)", x, () -> x.gain(-1), BAD);
@@ -222,6 +228,18 @@ public final class HandsTest {
         x.hand(0, 0);
         C.finding("gain(3), no hand can be", x, () -> x.gain(3), NOUGHT);
         C.refused("gain(1), STATE ahead", x, () -> x.gain(1), STATE);
+    }
+
+    private static void nextOfMany() {
+        PictureCourt x = weighing(3, 1, 0, 0);
+        for (int t = 0; t < 10; t++) {
+            x.test(100 - t, 0, NONE);
+        }
+        C.due("next(100, 0), alike: the least cost, told last", x.next(100, 0), 9);
+        often(x, 2, 16, 0, 0, 0);
+        C.due("next(100, 0), a lesser gain behind it costs less", x.next(100, 0), 2);
+        often(x, 4, 16, 0, 0, 0);
+        C.due("next(100, 0), as great a gain behind it costs less", x.next(100, 0), 4);
     }
 
     private static void nexts() {
@@ -249,6 +267,7 @@ public final class HandsTest {
         C.due("next(1000, 9)", x.next(1000, 9), 1);
         x.done(1, false);
         C.due("next(1000, 9), none left", x.next(1000, 9), NONE);
+        nextOfMany();
         C.refused("next(-1, 0)", x, () -> x.next(-1, 0), BAD);
         C.refused("next(0, -1)", x, () -> x.next(0, -1), BAD);
         x.hand(0, 0);

@@ -268,6 +268,11 @@ public final class ProofsTest {
         x.proof(1600, 1700, 1);
         C.due("quarrel(0), one year in both", x.quarrel(0), NONE);
         C.due("asked(), none told", x.asked(), 0);
+        PictureCourt z = new PictureCourt();
+        z.proof(1600, 1700, 1);
+        z.proof(1500, 1600, 1);
+        C.due("quarrel(0), the other way round", z.quarrel(0), NONE);
+        C.due("quarrel(0), full", full().quarrel(0), NONE);
         x.proof(1400, 1499, 1);
         C.due("quarrel(0)", x.quarrel(0), 1);
         C.due("asked()", x.asked(), 3);

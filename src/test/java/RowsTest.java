@@ -171,6 +171,12 @@ public final class RowsTest {
         fill(x, 3, -100, 100);
         C.due("match(2, 3), bytes with signs", x.match(2, 3), 0);
         C.due("asked()", x.asked(), 400);
+        fill(x, 4, 6, 6, 9, 9);
+        fill(x, 5, 6, 6, 6);
+        x.row(5, 2);
+        C.due("match(5, 4), only the bytes that are there", x.match(5, 4), 0);
+        C.due("asked()", x.asked(), 12);
+        x.tear(4);
         C.refused("match(0, 0)", x, () -> x.match(0, 0), BAD);
         C.refused("match(0, 6)", x, () -> x.match(0, 6), BAD);
         C.refused("match(-1, 0)", x, () -> x.match(-1, 0), BAD);
@@ -181,6 +187,17 @@ public final class RowsTest {
         C.finding("match(5, 0)", x, () -> x.match(5, 0), SIZE);
         C.finding("match(0, 5)", x, () -> x.match(0, 5), SIZE);
         C.finding("match(5, 4), the missing one ahead", x, () -> x.match(5, 4), NOTHING);
+    }
+
+    /** Each of the other four rows can make a match unsure. */
+    private static void rivalDue(int rival) {
+        int r = (rival + 2) % 6;
+        int other = (rival + 4) % 6;
+        PictureCourt x = withRow(r, 3, 4);
+        fill(x, other, 3, 4);
+        C.due("sure(), no rival", x.sure(r, other), 1);
+        fill(x, rival, 9, 3, 4);
+        C.due("sure(), rival " + rival, x.sure(r, other), 0);
     }
 
     private static void sures() {
@@ -205,6 +222,9 @@ public final class RowsTest {
         C.due("sure(4, 0), empty", x.sure(4, 0), 0);
         C.due("sure(0, 4), empty", x.sure(0, 4), 0);
         C.due("sure(5, 4), neither", x.sure(5, 4), 0);
+        for (int rival = 0; rival <= 5; rival++) {
+            rivalDue(rival);
+        }
         C.refused("sure(1, 1)", x, () -> x.sure(1, 1), BAD);
         C.refused("sure(6, 1)", x, () -> x.sure(6, 1), BAD);
         C.refused("sure(1, -1)", x, () -> x.sure(1, -1), BAD);
