@@ -2,11 +2,18 @@
 public final class AnswerEdgesTest {
     private static final Runs R = new Runs();
     private static final String NO_HAND = "hand 0 0; hand 1 0; hand 2 0; hand 3 0";
+    private static final String FILLED = "later 40; row 0 2; row 1 3; row 2 3; lay 0 0 7; lay 1 1 7; lay 2 0 9; "
+            + "row 4 0; paint 3 1604; sap 5 20 3; proof 1500 1650 3; found 3 2; rings 1590 6 4; "
+            + "threads 0 1 1610 1620 5; later 10; strike 0; proof 1700 1710 9; hand 0 5; hand 1 3; test 10 1 0; "
+            + "test 5 1 0; test 20 3 NONE; often 0 0 16; often 2 1 2; done 0 true; owner 1600 1610; owner 1650 1660; "
+            + "opinion 1 0 80 false; opinion 1 0 60 false; opinion 2 1 30 true; law 0 500 30 10; law 45 5 90 20; "
+            + "sold 30 36500 1; chance 0; match 0 1; gaps 1500 1700; tear 5 = NOTHING; tear 5 = NOTHING; ";
 
     public static void main(String[] args) {
         calls();
         order();
         changesNothing();
+        changesNothingElse();
         none();
         findings();
         fractions();
@@ -132,12 +139,6 @@ public final class AnswerEdgesTest {
     /** A well filled object, and a refused call of every sort: Runs looks at all that is seen afterwards. */
     private static void changesNothing() {
         R.term("What is refused changes nothing but finding(), findings().");
-        String filled = "later 40; row 0 2; row 1 3; row 2 3; lay 0 0 7; lay 1 1 7; lay 2 0 9; row 4 0; paint 3 1604; "
-                + "sap 5 20 3; proof 1500 1650 3; found 3 2; rings 1590 6 4; threads 0 1 1610 1620 5; later 10; "
-                + "strike 0; proof 1700 1710 9; hand 0 5; hand 1 3; test 10 1 0; test 5 1 0; test 20 3 NONE; "
-                + "often 0 0 16; often 2 1 2; done 0 true; owner 1600 1610; owner 1650 1660; opinion 1 0 80 false; "
-                + "opinion 1 0 60 false; opinion 2 1 30 true; law 0 500 30 10; law 45 5 90 20; sold 30 36500 1; "
-                + "chance 0; match 0 1; gaps 1500 1700; tear 5 = NOTHING; tear 5 = NOTHING; ";
         String[] refused = {
             "later -1 = BAD", "later 29951 = BAD", "row 0 41 = BAD", "row 0 -1 = SIZE", "row 6 3 = BAD",
             "lay 0 2 5 = BEYOND", "lay 5 0 5 = NOTHING", "lay 6 0 5 = BAD", "tear 5 = NOTHING", "tear -1 = BAD",
@@ -154,7 +155,28 @@ public final class AnswerEdgesTest {
             "sold 5 0 0 = BAD", "law 0 0 101 0 = BAD", "count 8 = BAD", "findings 0 = BAD", "findings 6 = BAD",
         };
         for (String call : refused) {
-            R.run(filled + call);
+            R.run(FILLED + call);
+        }
+    }
+
+    /** Runs looks at all that a change must leave as it was. */
+    private static void changesNothingElse() {
+        R.term("A call that is not refused changes what its promise says, and nothing else.");
+        String[] taken = {
+            "later 0 = 50", "later 1 = 51", "later 29950 = 30000", "row 0 2 = 2", "row 3 40 = 40", "row 2 0 = 0",
+            "lay 0 0 7 = 1007", "lay 1 2 200 = 1000", "tear 4 = 1", "tear 1 = 1", "copy 0 0 1 1 2 = 1",
+            "copy 1 0 1 1 2 = 1", "paint 3 1500 = 1604", "paint 0 2100 = 1000", "sap 0 60 60 = 1", "proof 1000 2100 1 "
+                    + "= 5",
+            "found 3 9 = 5", "rings 2000 30 1 = 5", "threads 1 2 1500 1600 1 = 5", "strike 1 = 1", "strike 4 = 1",
+            "hand 0 0 = 5", "hand 3 99 = 1", "test 1 0 NONE = 3", "test 1000 9 0 = 3", "often 1 0 0 = 8", "often 2 1 "
+                    + "16 = 2",
+            "done 1 true = 0", "done 2 false = 1", "owner 1000 2100 = 3", "owner 1500 1500 = 3", "opinion 9 3 100 "
+                    + "false = 4",
+            "opinion 1 0 0 true = 4", "sold 0 1 3 = 1", "sold 50 1000000 0 = 1", "law 50 0 0 0 = 2", "law 30 30000 "
+                    + "100 100 = 2",
+        };
+        for (String call : taken) {
+            R.run(FILLED + call);
         }
     }
 

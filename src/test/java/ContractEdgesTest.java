@@ -47,6 +47,10 @@ public final class ContractEdgesTest {
         R.run("owner 1500 1600; gaps 1500 1600 = 0; gaps 1499 1600 = 1; asked = 1; gaps 1500 1601 = 1; asked = 1; "
                 + "gaps 1499 1601 = 2; asked = 1; gaps 1490 1499 = 10; asked = 10; gaps 1490 1500 = 10; "
                 + "gaps 1601 1610 = 10; asked = 10; gaps 1600 1610 = 10; gaps 1550 1560 = 0; asked = 0");
+        R.run("owner 1600 1610; owner 1700 1710; gaps 1500 1510 = 11; asked = 11; gaps 1500 1598 = 99; asked = 99; "
+                + "gaps 1500 1599 = 100; asked = 100; gaps 1500 1600 = 100; asked = 100; gaps 1800 1810 = 11; "
+                + "asked = 11; gaps 1712 1720 = 9; gaps 1711 1720 = 10; gaps 1710 1720 = 10; asked = 10; "
+                + "gaps 1620 1630 = 11; asked = 11; gaps 1611 1699 = 89; asked = 89");
         R.run("owner 1600 1609; owner 1610 1619; gaps 1600 1619 = 0; owner 1621 1630; gaps 1600 1630 = 1; asked = 1; "
                 + "gaps 1590 1640 = 21; asked = 10; gaps 1595 1640 = 16; asked = 10; gaps 1590 1635 = 16; asked = 10");
         R.run("owner 1500 1700; owner 1600 1610; gaps 1400 1800 = 200; asked = 100; owner 1500 1500; owner 1700 1700; "
@@ -201,6 +205,9 @@ public final class ContractEdgesTest {
                 + "sold 0 36500 0; claim = 1; asked = 36501");
         R.run("law 0 30000 100 100; sold 0 1 0; later 364; claim = 1; asked = 1; later 1; claim = 1; asked = 2; "
                 + "later 364; claim = 1; asked = 2; later 1; claim = 1; asked = 3");
+        R.run("law 0 30000 100 50; sold 0 1 0; later 729; claim = 1; asked = 1; later 1; claim = 1; asked = 2");
+        R.run("law 0 30000 100 7; sold 0 55 0; later 94; claim = 1; asked = 55; later 1; claim = 1; asked = 56; "
+                + "later 94; claim = 1; asked = 56; later 1; claim = 1; asked = 57");
         R.run("law 0 30000 100 100; sold 0 1000000 0; later 30000; claim = 1; asked = 83191780");
         R.run("law 0 30000 100 0; sold 0 1000000 0; later 30000; claim = 1; asked = 1000000");
         R.run("law 0 30000 100 100; sold 0 1000000 0; claim = 1; asked = 1000000; later 1; claim = 1; asked = 1002739");

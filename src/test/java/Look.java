@@ -40,12 +40,23 @@ final class Look {
         }
     }
 
-    private void seeAsked(String name, long answer) {
+    /** What a call tells by asked() is seen only if it told something; what was told before told() has seen. */
+    private void seeAsked(String name, long answer, boolean isTold) {
         see(name, answer);
-        see("asked() behind " + name, x.asked());
+        if (isTold) {
+            see("asked() behind " + name, x.asked());
+        }
     }
 
-    /** A refused call leaves the fraction as it was told before, which told() has seen. */
+    private void seeAsked(String name, long answer) {
+        seeAsked(name, answer, answer >= 0);
+    }
+
+    private void seeClaim(String name) {
+        long answer = x.claim();
+        seeAsked(name, answer, answer == 1);
+    }
+
     private void seeFraction(String name, long answer) {
         see(name, answer);
         if (answer == 1) {
@@ -72,7 +83,7 @@ final class Look {
     }
 
     private void contract() {
-        seeAsked("claim()", x.claim());
+        seeClaim("claim()");
     }
 
     private void opinions() {
@@ -83,7 +94,6 @@ final class Look {
         }
     }
 
-    /** Ahead of the calls that may tell nothing, as gaps() always tells something anew by asked(). */
     private void owners() {
         seeAsked("gaps(1000, 2100)", x.gaps(1000, 2100));
         for (int a = 1000; a <= 2000; a += 100) {
@@ -157,8 +167,8 @@ final class Look {
         for (int days = 0; days <= 2 && days <= today; days++) {
             for (int hand : new int[] {0, 3}) {
                 int day = today * days / 2;
-                see(days + " sold(" + day + ", 36500, " + hand + ")", x.sold(day, 36500, hand));
-                seeAsked(days + " claim() behind it, of HAND " + hand, x.claim());
+                see("sold(" + day + ", 36500, " + hand + "), " + days, x.sold(day, 36500, hand));
+                seeClaim("then claim(), of HAND " + hand + ", " + days);
             }
         }
     }

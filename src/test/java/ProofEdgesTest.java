@@ -141,8 +141,9 @@ public final class ProofEdgesTest {
         R.run("row 0 1; row 1 1; later 5; threads 0 1 1610 1620 1; later 5; span 5 false = 1610; span 10 true = 1620; "
                 + "tear 0; span 5 false = 1000; span 10 true = 2100; later 5; row 0 1; span 5 true = 1620; "
                 + "span 4 true = 2100");
-        R.run("row 0 1; row 1 2; threads 0 1 1610 1620 1; threads 1 0 1700 1710 1; told 0 4 = 1610; told 1 4 = 1000; "
-                + "row 0 2; told 1 4 = 1700; quarrel 0 = 0; asked = 1; row 2 2; quarrel 0 = NONE");
+        R.run("row 0 1; row 1 2; threads 0 1 1610 1620 1; threads 1 0 1700 1710 1; told 0 4 = 1610; told 0 5 = 1620; "
+                + "mark 0 3 = 1; told 1 4 = 1000; told 1 5 = 2100; mark 1 3 = 0; row 0 2; told 1 4 = 1700; "
+                + "quarrel 0 = 0; asked = 1; row 2 2; quarrel 0 = NONE");
         R.run("row 0 1; row 1 1; threads 0 1 1000 1000 1; threads 1 0 2100 2100 1; told 0 4 = 1000; told 0 5 = 1000; "
                 + "told 1 4 = 2100; told 1 5 = 2100");
     }

@@ -10,15 +10,28 @@ import java.util.Set;
  * Runs of calls told as text, each on a new object: "row 0 3 = 3; lay 0 3 1 = BEYOND".
  *
  * Behind '=' stands the answer that is due; a call without one must not be refused. "24x proof 1000 2100 1"
- * is that call 24 times. Where a call is refused, tells NONE or only asks, the run is made once with it and
- * once without it, and all that the other calls show afterwards must be the same, but for what the document
- * lets such a call change.
+ * is that call 24 times. A run is made once with a call and once without it, and all that the other calls show
+ * afterwards must be the same, but for what the document lets the call change: nothing, where it is refused,
+ * tells NONE or only asks, but finding(), findings() and what it tells by asked(), upper(), lower().
  */
 final class Runs {
-    /** The calls that change something, if they are not refused. */
-    private static final Set<String> CHANGING = Set.of("later", "row", "lay", "tear", "copy", "paint", "sap",
-            "proof", "found", "rings", "threads", "strike", "hand", "test", "often", "done", "owner", "opinion",
-            "sold", "law");
+    private static final String AS_OF_A_DAY = "span( quarrel( leftOut( heldYear( ";
+    private static final String OF_ROWS = AS_OF_A_DAY + "digest( mark( match(";
+    private static final String OF_PROOFS = AS_OF_A_DAY + "digest( mark( count(1 count(2 rings( its";
+    private static final String OF_CHANCES = "digest( chance( likely( gain next( claim( then ";
+
+    /** The calls that change something, and with what the names begin by which that may be seen. */
+    private static final Map<String, String> CHANGING = Map.ofEntries(
+            Map.entry("later", "count(0 digest( claim( sold( then"), Map.entry("row", OF_ROWS),
+            Map.entry("lay", OF_ROWS), Map.entry("tear", OF_ROWS), Map.entry("copy", OF_ROWS),
+            Map.entry("paint", AS_OF_A_DAY + "digest("), Map.entry("sap", AS_OF_A_DAY + "digest( mark( its"),
+            Map.entry("proof", OF_PROOFS), Map.entry("found", OF_PROOFS), Map.entry("rings", OF_PROOFS),
+            Map.entry("threads", OF_PROOFS), Map.entry("strike", AS_OF_A_DAY + "digest( count(2"),
+            Map.entry("hand", OF_CHANCES + "hand("),
+            Map.entry("test", "digest( count(3 gain next("), Map.entry("often", "digest( gain next("),
+            Map.entry("done", OF_CHANCES + "count(4"), Map.entry("owner", "digest( count(5 gaps("),
+            Map.entry("opinion", "digest( count(6 spread( mean("), Map.entry("sold", "claim("),
+            Map.entry("law", "digest( count(7 claim( then"));
     private static final Set<String> TELLING_ASKED = Set.of("match", "quarrel", "leftOut", "gaps", "spread", "claim");
     private static final Set<String> TELLING_FRACTIONS = Set.of("chance", "gain");
     private static final List<String> FINDINGS = List.of("NOTHING", "BEYOND", "UNLIKE", "NOUGHT", "SIZE");
@@ -49,7 +62,7 @@ final class Runs {
 
         /** 1 to 5, or 0 where no FINDING is due. */
         int finding() {
-            return FINDINGS.indexOf(due) + 1;
+            return due == null ? 0 : FINDINGS.indexOf(due) + 1;
         }
     }
 
@@ -78,8 +91,7 @@ final class Runs {
             Call call = calls.get(k);
             long got = call.on(x);
             answerDue(call, got, text);
-            boolean isChanging = CHANGING.contains(call.name()) && got >= 0;
-            if (call.due != null && !isChanging) {
+            if (call.due != null || k == calls.size() - 1) {
                 compareWithout(call, got, calls.subList(0, k), text);
             }
         }
@@ -135,23 +147,32 @@ final class Runs {
             due.put("finding()", (long) call.finding());
             due.merge("findings(" + call.finding() + ")", 1L, Long::sum);
         }
-        boolean isTelling = call.name().equals("claim") ? got == 1 : got >= 0;
-        if (isTelling && TELLING_ASKED.contains(call.name())) {
-            forget("asked()", due, seen);
-        }
-        if (isTelling && TELLING_FRACTIONS.contains(call.name())) {
-            forget("upper()", due, seen);
-            forget("lower()", due, seen);
-        }
+        boolean isChanging = CHANGING.containsKey(call.name()) && got >= 0;
         for (String name : due.keySet()) {
-            checks.due(name + " behind " + call.text + " in: " + text, seen.getOrDefault(name, Long.MIN_VALUE),
-                    due.get(name));
+            boolean isOpen = isChanging ? mayChange(call, name, seen) : mayTell(call, got, name);
+            if (!isOpen) {
+                checks.due(name + " behind " + call.text + " in: " + text, seen.getOrDefault(name, Long.MIN_VALUE),
+                        due.get(name));
+            }
         }
     }
 
-    private static void forget(String name, Map<String, Long> due, Map<String, Long> seen) {
-        due.remove(name);
-        seen.remove(name);
+    /** What a change is not seen by must be as without it; a name may be gone, where it tells a number or a day. */
+    private static boolean mayChange(Call call, String name, Map<String, Long> seen) {
+        String shown = name.replaceFirst("^(asked|upper|lower)\\(\\) behind ", "");
+        for (String start : CHANGING.get(call.name()).split("\\s+")) {
+            if (shown.startsWith(start)) {
+                return true;
+            }
+        }
+        return call.name().equals("later") && !seen.containsKey(name);
+    }
+
+    private static boolean mayTell(Call call, long got, String name) {
+        boolean isTelling = call.name().equals("claim") ? got == 1 : got >= 0;
+        boolean isTold = name.equals("asked()") && TELLING_ASKED.contains(call.name())
+                || (name.equals("upper()") || name.equals("lower()")) && TELLING_FRACTIONS.contains(call.name());
+        return isTelling && isTold;
     }
 
     private static PictureCourt after(List<Call> calls) {
