@@ -3,9 +3,9 @@ public final class AnswerEdgesTest {
     private static final Runs R = new Runs();
     private static final String NO_HAND = "hand 0 0; hand 1 0; hand 2 0; hand 3 0";
     private static final String FILLED = "later 40; row 0 2; row 1 3; row 2 3; lay 0 0 7; lay 1 1 7; lay 2 0 9; "
-            + "row 4 0; paint 3 1604; sap 5 20 3; proof 1500 1650 3; found 3 2; rings 1590 6 4; "
-            + "threads 0 1 1610 1620 5; later 10; strike 0; proof 1700 1710 9; hand 0 5; hand 1 3; test 10 1 0; "
-            + "test 5 1 0; test 20 3 NONE; often 0 0 16; often 2 1 2; done 0 true; owner 1600 1610; owner 1650 1660; "
+            + "row 4 0; paint 3 1604; proof 1500 1650 3; found 3 2; rings 1590 6 4; threads 0 1 1610 1620 5; "
+            + "later 10; sap 5 20 3; strike 0; proof 1700 1710 9; hand 0 5; hand 1 3; test 10 1 0; test 5 1 0; "
+            + "test 20 3 NONE; often 0 0 16; often 2 1 2; done 0 true; owner 1600 1610; owner 1650 1660; "
             + "opinion 1 0 80 false; opinion 1 0 60 false; opinion 2 1 30 true; law 0 500 30 10; law 45 5 90 20; "
             + "sold 30 36500 1; chance 0; match 0 1; gaps 1500 1700; tear 5 = NOTHING; tear 5 = NOTHING; ";
 
