@@ -84,6 +84,9 @@ public final class FaceTest {
             }
         }
         C.due("how many methods the document has", due.size(), 43);
+        Method[] all = PictureCourt.class.getDeclaredMethods();
+        C.due("names, none of them borne by two methods", Arrays.stream(all).map(Method::getName).distinct().count(),
+                all.length);
         C.holds("the methods are those of the document: " + open, open.equals(due));
     }
 
